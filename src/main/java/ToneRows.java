@@ -18,8 +18,8 @@ public final class ToneRows {
     private static final int ALL_TONES = (1 << TONES) - 1;
     private static final long ALL_FORMS = (1L << FORMS) - 1;
 
-    private static final int BITS = 4;
-    private static final long LOWEST = (1L << BITS) - 1;
+    private static final int BITS_A_PLACE = 4;
+    private static final long PLACE_0 = (1L << BITS_A_PLACE) - 1;
 
     private long row0;
     private long row1;
@@ -148,7 +148,8 @@ public final class ToneRows {
 
     // ---- sets and hexachords
 
-    public int segment(int row, int place, int length) throws IndexOutOfBoundsException, IllegalArgumentException {
+    public int segment(int row, int place, int length)
+            throws IndexOutOfBoundsException, IllegalArgumentException {
         requireRow(row);
         requirePlace(place, LAST);
         requireRange(length, 1, TONES - place);
@@ -230,8 +231,8 @@ public final class ToneRows {
         int best = NONE;
         int most = -1;
         for (int code = 0; code < FORMS; code++) {
-            int kept = code == itself ? -1 : countKept(tones, formWith(tones, code), length);
-            if (kept > most) {
+            int kept = countKept(tones, formWith(tones, code), length);
+            if (code != itself && kept > most) {
                 most = kept;
                 best = code;
             }
@@ -385,12 +386,12 @@ public final class ToneRows {
     // ---- runs of tones, and sets
 
     private static int entryAt(long tones, int place) {
-        return (int) ((tones >>> (BITS * place)) & LOWEST);
+        return (int) ((tones >>> (BITS_A_PLACE * place)) & PLACE_0);
     }
 
     private static long withEntry(long tones, int place, int tone) {
-        int shift = BITS * place;
-        return (tones & ~(LOWEST << shift)) | ((long) tone << shift);
+        int shift = BITS_A_PLACE * place;
+        return (tones & ~(PLACE_0 << shift)) | ((long) tone << shift);
     }
 
     private static int wrap(int number) {

@@ -64,7 +64,8 @@ final class ModelTest {
             case 3 -> same(where + "rotate", x.rotate(row, place), model.rotate(row, place));
             case 4 -> same(where + "tone", x.tone(row, place), model.tone(row, place));
             case 5 -> same(where + "interval", x.interval(row, place % 11), model.interval(row, place % 11));
-            case 6 -> same(where + "hasAllIntervals", x.hasAllIntervals(row) ? 1 : 0, model.hasAllIntervals(row) ? 1 : 0);
+            case 6 -> same(where + "hasAllIntervals", x.hasAllIntervals(row) ? 1 : 0,
+                    model.hasAllIntervals(row) ? 1 : 0);
             case 7 -> same(where + "toneOf", x.toneOf(row, kind, tone, place), model.toneOf(row, kind, tone, place));
             case 8 -> same(where + "matrix", x.matrix(row, tone, place), model.matrix(row, tone, place));
             case 9 -> same(where + "differentForms", x.differentForms(row), model.differentForms(row));
@@ -74,7 +75,8 @@ final class ModelTest {
             case 13 -> same(where + "combining", x.combining(row), model.combining(row));
             case 14 -> same(where + "isDerived", x.isDerived(row, SIZES[place % 6]) ? 1 : 0,
                     model.isDerived(row, SIZES[place % 6]) ? 1 : 0);
-            case 15 -> same(where + "keptSets", x.keptSets(row, kind, tone, length), model.keptSets(row, kind, tone, length));
+            case 15 -> same(where + "keptSets", x.keptSets(row, kind, tone, length),
+                    model.keptSets(row, kind, tone, length));
             case 16 -> same(where + "longestKept", x.longestKept(row, kind, tone), model.longestKept(row, kind, tone));
             case 17 -> mostKept(where, x, model, row, length);
             case 18 -> same(where + "cuts", x.cuts(code, other), model.cuts(code, other));
