@@ -6,10 +6,16 @@ public final class AllTests {
     public static void main(String[] args) {
         FaceTest.run();
         RowsTest.run();
+        RowsEdgesTest.run();
         FormsTest.run();
+        FormsEdgesTest.run();
         SetsTest.run();
+        SetsEdgesTest.run();
         KeptTest.run();
+        KeptEdgesTest.run();
         PhraseTest.run();
+        PhraseEdgesTest.run();
+        RangesTest.run();
         ModelTest.run();
         System.out.println(Check.passed + " passed, " + Check.failed + " failed");
         if (Check.failed != 0) {

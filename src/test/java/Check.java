@@ -40,10 +40,12 @@ final class Check {
     }
 
     static void outOfBounds(String what, Call call) {
+        refusesAnew(what, IndexOutOfBoundsException.class, call);
         refuses(what, IndexOutOfBoundsException.class, call);
     }
 
     static void illegalArgument(String what, Call call) {
+        refusesAnew(what, IllegalArgumentException.class, call);
         refuses(what, IllegalArgumentException.class, call);
     }
 
@@ -51,14 +53,20 @@ final class Check {
         refuses(what, IllegalStateException.class, call);
     }
 
-    /** On objects in two states: the call throws just this exception, and changes nothing. */
-    private static void refuses(String what, Class<? extends RuntimeException> wanted, Call call) {
-        ToneRows used = Rows.used();
-        due(what + " on used rows", thrownBy(call, used), wanted);
-        due("what " + what + " leaves of used rows", Rows.read(used), Rows.read(Rows.used()));
-        ToneRows full = Rows.withFullPhrase();
-        due(what + " with a full phrase", thrownBy(call, full), wanted);
-        due("what " + what + " leaves with a full phrase", Rows.read(full), Rows.read(Rows.withFullPhrase()));
+    private static void refusesAnew(String what, Class<?> wanted, Call call) {
+        refusal(what + " on a new object", wanted, call, new ToneRows(), new ToneRows());
+    }
+
+    /** On objects with something in the phrase: a new one has no tone to write twice. */
+    private static void refuses(String what, Class<?> wanted, Call call) {
+        refusal(what + " on used rows", wanted, call, Rows.used(), Rows.used());
+        refusal(what + " with a full phrase", wanted, call, Rows.withFullPhrase(), Rows.withFullPhrase());
+    }
+
+    /** The call throws just this exception, and leaves the object as one that it was not called on. */
+    static void refusal(String what, Class<?> wanted, Call call, ToneRows rows, ToneRows untouched) {
+        due(what, thrownBy(call, rows), wanted);
+        due("what " + what + " leaves", Rows.readAndAsk(rows), Rows.readAndAsk(untouched));
     }
 
     /** What a call throws, or null. */
@@ -75,6 +83,6 @@ final class Check {
     static void onlyComputes(String what, Call call) {
         ToneRows used = Rows.used();
         call.on(used);
-        due("what " + what + " leaves", Rows.read(used), Rows.read(Rows.used()));
+        due("what " + what + " leaves", Rows.readAndAsk(used), Rows.readAndAsk(Rows.used()));
     }
 }

@@ -20,6 +20,20 @@ final class Model {
         }
     }
 
+    /** A model of an object with these rows and this phrase. */
+    static Model of(int[] first, int[] second, int[] phrase) {
+        Model model = new Model();
+        model.rows.set(0, Rows.list(first));
+        model.rows.set(1, Rows.list(second));
+        model.phrase.addAll(Rows.list(phrase));
+        return model;
+    }
+
+    /** What Rows.read tells of an object that is as this model is. */
+    String read() {
+        return rows.get(0) + " " + rows.get(1) + " phrase " + phrase;
+    }
+
     private static int mod(int number) {
         int rest = number % 12;
         return rest < 0 ? rest + 12 : rest;

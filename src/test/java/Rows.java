@@ -1,8 +1,9 @@
 import java.util.ArrayList;
 import java.util.List;
 
-/** Rows known from music, objects that hold them, and what an object holds. */
+/** Rows known from music, objects that hold them, and what an object holds and shows. */
 final class Rows {
+    static final int[] ASCENDING = {0, 1, 2, 3, 4, 5, 6, 7, 8, 9, 10, 11};
     /** Berg, Lyric Suite: all eleven intervals; its own retrograde. */
     static final int[] LYRIC = {5, 4, 0, 9, 7, 2, 8, 1, 3, 6, 10, 11};
     /** Webern, Concerto op. 24: derived from one set of three tones. */
@@ -29,7 +30,7 @@ final class Rows {
     }
 
     static ToneRows of(int[] first) {
-        return of(first, new int[] {0, 1, 2, 3, 4, 5, 6, 7, 8, 9, 10, 11});
+        return of(first, ASCENDING);
     }
 
     static ToneRows of(int[] first, int[] second) {
@@ -77,6 +78,24 @@ final class Rows {
         rows.complete(0);
         List<Integer> begin = tones(rows, 0);
         return both + " phrase " + begin.subList(0, rows.erase());
+    }
+
+    /** What an object holds, and what its calls answer; it is of no use afterwards. */
+    static String readAndAsk(ToneRows rows) {
+        StringBuilder told = new StringBuilder();
+        for (int row = 0; row < 2; row++) {
+            told.append(rows.hasAllIntervals(row)).append(' ').append(rows.differentForms(row));
+            told.append(' ').append(rows.formOfOther(row)).append(' ').append(rows.combining(row));
+            told.append(' ').append(rows.toneOf(row, ToneRows.INVERSION, 2, 7));
+            told.append(' ').append(rows.matrix(row, 3, 8)).append(' ').append(rows.interval(row, 10));
+            told.append(' ').append(rows.segment(row, 2, 5)).append(' ').append(rows.isDerived(row, 3));
+            told.append(' ').append(rows.keptSets(row, ToneRows.RETROGRADE_INVERSION, 4, 2));
+            told.append(' ').append(rows.longestKept(row, ToneRows.RETROGRADE, 9));
+            told.append(' ').append(rows.mostKept(row, 3)).append(' ').append(rows.formsWithPhrase(row));
+            told.append(' ').append(rows.placeOfPhrase(row, 0)).append(' ');
+        }
+        told.append(rows.cuts(0, 23)).append(' ').append(rows.classOf(145)).append(' ').append(rows.pairs(145, 3));
+        return told.append(' ').append(read(rows)).toString();
     }
 
     static long bits(int... numbers) {

@@ -1,7 +1,5 @@
 /** Promises 1 to 8. */
 final class RowsTest {
-    private static final int[] ASCENDING = {0, 1, 2, 3, 4, 5, 6, 7, 8, 9, 10, 11};
-
     private RowsTest() {
     }
 
@@ -19,13 +17,13 @@ final class RowsTest {
     private static void newObject() {
         Check.promise("1: a new object");
         ToneRows x = new ToneRows();
-        Check.due("row 0", Rows.tones(x, 0), Rows.list(ASCENDING));
-        Check.due("row 1", Rows.tones(x, 1), Rows.list(ASCENDING));
+        Check.due("row 0", Rows.tones(x, 0), Rows.list(Rows.ASCENDING));
+        Check.due("row 1", Rows.tones(x, 1), Rows.list(Rows.ASCENDING));
         Check.due("the tones of the phrase", x.erase(), 0);
         ToneRows other = new ToneRows();
         other.put(0, 0, 5);
         other.write(4);
-        Check.due("row 0 while another object changes", Rows.tones(x, 0), Rows.list(ASCENDING));
+        Check.due("row 0 while another object changes", Rows.tones(x, 0), Rows.list(Rows.ASCENDING));
         Check.due("the phrase while another object changes", x.erase(), 0);
     }
 
@@ -34,7 +32,7 @@ final class RowsTest {
         ToneRows x = new ToneRows();
         Check.due("the tone at place 3", x.put(0, 3, 7), 3);
         Check.due("row 0 with 7 at 3", Rows.tones(x, 0), Rows.list(0, 1, 2, 7, 4, 5, 6, 3, 8, 9, 10, 11));
-        Check.due("row 1, not named", Rows.tones(x, 1), Rows.list(ASCENDING));
+        Check.due("row 1, not named", Rows.tones(x, 1), Rows.list(Rows.ASCENDING));
         Check.due("the tone at place 0", x.put(0, 0, 11), 0);
         Check.due("the tone at place 11", x.put(0, 11, 7), 0);
         Check.due("row 0 after the edges", Rows.tones(x, 0), Rows.list(11, 1, 2, 0, 4, 5, 6, 3, 8, 9, 10, 7));
@@ -131,7 +129,7 @@ final class RowsTest {
         Check.due("rotated by 12 in all", Rows.tones(x, 0), Rows.list(Rows.PIECE));
         Check.due("the begin rotated by 5", x.rotate(0, 5), 6);
         Check.due("rotated by 5", Rows.tones(x, 0), Rows.list(6, 1, 3, 7, 8, 2, 4, 10, 5, 0, 11, 9));
-        Check.due("the other row", Rows.tones(x, 1), Rows.list(ASCENDING));
+        Check.due("the other row", Rows.tones(x, 1), Rows.list(Rows.ASCENDING));
         Check.due("the begin of row 1 rotated by 11", x.rotate(1, 11), 11);
         Check.due("row 1 rotated by 11", Rows.tones(x, 1), Rows.list(11, 0, 1, 2, 3, 4, 5, 6, 7, 8, 9, 10));
 
