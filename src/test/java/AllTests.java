@@ -5,6 +5,7 @@ public final class AllTests {
 
     public static void main(String[] args) {
         FaceTest.run();
+        ReadmeTest.run();
         RowsTest.run();
         RowsEdgesTest.run();
         FormsTest.run();
